@@ -210,6 +210,7 @@ public final class PlaysTest {
         due("n 15", x.lots(15, 1), WindowCards.BAD);
         due("seed 0", x.lots(1, 0), WindowCards.BAD);
         due("seed 1000000", x.lots(1, 1000000), WindowCards.BAD);
+        due("seed 999999", game(text).lots(1, 999999), 1);
         all("nothing played", x, 511, 0, 0, 0, 0, 21, 10, 0);
         // 16807 mod 24 is 7: card 0 in WAY 7.
         due("one", x.lots(1, 1), 1);

@@ -61,19 +61,18 @@ public final class RowsTest {
         due("in place", x.row(1, 2, 3), 3);
         x.row(2, 2, 1);
         x.copy(1, 2, 2, 0, 1);
-        due("items 0 at first", firstItem(x, 2), 0);
+        due("items 0 at first", playShown(x, 2), 1);
     }
 
-    /** Item 0 of an int row, told by no call alone: found by the game that plays by it. */
-    private static int firstItem(WindowCards x, int row) {
-        String text = "table 1 2 3 4 5 6 7 8 9;card ooooooooo 0;card ooooooooo 0;";
+    /** What SHOWS by item 0 of a row: no call tells an item, but WAY 0 of the corner leaves 1. */
+    private static int playShown(WindowCards x, int row) {
+        String text = "table 1 2 3 4 5 6 7 8 9;card oxxxxxxxx 0;card xxxxoxxxx 0;";
         for (int i = 0; i < text.length(); i++) {
             x.feed(text.charAt(i), 1);
         }
         x.game();
         x.plays(row, 0, 1);
-        int left = x.now(5);
-        return left == 2 ? 0 : left == 1 ? 8 : -1;
+        return x.now(0);
     }
 
     private static void lanes() {

@@ -118,6 +118,10 @@ public final class TapeTest {
     private static void faultsOfTables() {
         fault("tables 1 2 3 4 5 6 7 8 9;" + CARD, 1, 0);
         fault("tabl 1 2 3 4 5 6 7 8 9;" + CARD, 1, 0);
+        fault("tablo 1 2 3 4 5 6 7 8 9;" + CARD, 1, 0);
+        fault("fable 1 2 3 4 5 6 7 8 9;" + CARD, 1, 0);
+        fault("tablea 1 2 3 4 5 6 7 8 9;" + CARD, 1, 0);
+        fault("tablez 1 2 3 4 5 6 7 8 9;" + CARD, 1, 0);
         fault("Table 1 2 3 4 5 6 7 8 9;" + CARD, 1, 0);
         fault(" ; table", 1, 1);
         fault("7 table", 1, 0);
@@ -143,6 +147,8 @@ public final class TapeTest {
     private static void faultsOfCards() {
         fault(TABLE + ";", 1, 24);
         fault(TABLE + "cards ooooooooo 0;", 1, 24);
+        fault(TABLE + "cart ooooooooo 0;", 1, 24);
+        fault(TABLE + "hard ooooooooo 0;", 1, 24);
         fault(TABLE + "cardooooooooo 0;", 1, 24);
         fault(TABLE + "table ooooooooo 0;", 1, 24);
         fault(TABLE + "card card 0;", 1, 29);
@@ -204,8 +210,11 @@ public final class TapeTest {
     private static void afresh() {
         WindowCards x = new WindowCards();
         read(x, TABLE + "card xxxxxxxxx 0;card ooooooooo 1;card ooooooooo 0;");
-        x.play(0, 0);
-        x.play(1, 0);
+        x.row(0, 0, 3);
+        x.set(0, 1, 8);
+        x.set(0, 2, 16);
+        due("all", x.plays(0, 0, 3), 0);
+        due("what hand 0 got", x.now(3), 45);
         due("read", read(x, TABLE + "card oxxxxxxxx 1;"), 1);
         int[] want = {511, 0, 1, 0, 0, 0, 1, 0};
         for (int what = 0; what < 8; what++) {
